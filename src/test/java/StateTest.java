@@ -1,0 +1,129 @@
+/** Promises 27 and 28: undo and digest. */
+public final class StateTest {
+    private static final Checks c = new Checks("StateTest");
+
+    public static void main(String[] args) {
+        undo();
+        everyUndoableCallSaves();
+        otherCallsSaveNothing();
+        digest();
+        c.end();
+    }
+
+    private static void undo() {
+        CrochetRounds x = new CrochetRounds();
+        c.dueThrow("nothing saved", x, IllegalStateException.class, () -> x.undo());
+        for (int ring = 7; ring <= 12; ring++) {
+            x.begin(ring);
+        }
+        c.due("four are left", x.undo(), 3);
+        c.due("11", x.value(1), 11);
+        c.due("three are left", x.undo(), 2);
+        c.due("10", x.value(1), 10);
+        x.addRound(20);
+        c.due("behind an undo and a call", x.undo(), 2);
+        c.due("10 again", Checks.totals(x), "10");
+        c.due("one is left", x.undo(), 1);
+        c.due("9", x.value(1), 9);
+        c.due("none is left", x.undo(), 0);
+        c.due("8", x.value(1), 8);
+        c.dueThrow("the oldest were dropped", x, IllegalStateException.class, () -> x.undo());
+        undoOfEverything();
+    }
+
+    private static void undoOfEverything() {
+        CrochetRounds x = new CrochetRounds();
+        x.addShape(0, 1, 10);
+        x.setYarn(1, 33);
+        x.setSpiral(true);
+        Checks.write(x, "x6;");
+        long before = x.digest();
+        x.begin(3);
+        x.addRound(6);
+        x.setYarn(1, 1);
+        x.undo();
+        x.undo();
+        x.undo();
+        c.due("everything is back, but 1 saved state in place of 3", x.digest(), before - 2);
+        c.due("that one", x.undo(), 0);
+        c.due("the text is not saved", x.clearText(), 3);
+    }
+
+    private static void saves(String name, Checks.Call call, CrochetRounds x) {
+        while (!Checks.thrown(() -> x.undo()).equals("IllegalStateException")) {
+            continue;
+        }
+        long before = x.digest();
+        call.answer();
+        c.due(name + " saves one state", x.undo(), 0);
+        c.due(name + " is undone", x.digest(), before);
+    }
+
+    private static void everyUndoableCallSaves() {
+        CrochetRounds x = new CrochetRounds();
+        saves("begin", () -> x.begin(6), x);
+        saves("addRound", () -> x.addRound(6), x);
+        saves("addShifted", () -> x.addShifted(9, 3), x);
+        saves("addMirrored", () -> x.addMirrored(8), x);
+        saves("addShape", () -> x.addShape(0, 1, 39), x);
+        saves("addShape of nothing", () -> x.addShape(3, 20, 39), x);
+        saves("setYarn", () -> x.setYarn(0, 10), x);
+        saves("setSpiral", () -> x.setSpiral(false), x);
+        saves("carryOut of nothing", () -> x.carryOut(), x);
+        Checks.write(x, "v6;");
+        saves("carryOut", () -> x.carryOut(), x);
+        CrochetRounds y = new CrochetRounds();
+        for (int i = 0; i < 6; i++) {
+            y.addRound(6);
+        }
+        saves("rip", () -> y.rip(1), y);
+    }
+
+    private static void otherCallsSaveNothing() {
+        CrochetRounds x = new CrochetRounds();
+        Checks.write(x, "x6;");
+        long before = x.digest();
+        x.round(0, 5);
+        x.work(0, 0);
+        x.maker(0, 0);
+        x.parent(0, 0);
+        x.child(0, 0);
+        x.root(0, 0);
+        x.place(0, 0);
+        x.value(3);
+        x.goal(1, 3, 39);
+        x.stacks(12, 3);
+        x.roundsTo(120, 1);
+        x.nearestShape();
+        x.evenness(0);
+        x.judged();
+        x.digest();
+        c.due("asking changes nothing", x.digest(), before);
+        x.clearText();
+        c.dueThrow("nothing is saved", x, IllegalStateException.class, () -> x.undo());
+    }
+
+    private static long hash(long... values) {
+        long h = 3637L;
+        for (long v : values) {
+            h = 31L * h + v;
+        }
+        return h;
+    }
+
+    private static void digest() {
+        CrochetRounds x = new CrochetRounds();
+        c.due("digest of a new piece", x.digest(), hash(0, 1, 6, 6, 60, 0, 1, 0, 0, 10, 20, 13,
+            6, 6, 6, 0, 0, 0, 1, 60, 0, 0, 0, 0, 0, 0, 0, 0, 0, 0));
+        Checks.write(x, "q;");
+        x.begin(3);
+        x.addShifted(4, 1);
+        c.due("digest of two rounds", x.digest(), hash(2, 2, 4, 7, 70, 0, 2, 1, 0, 10, 20, 13,
+            3, 3, 3, 0, 0, 0, 1, 30, 0, 0, 0, 0, 0, 0,
+            4, 3, 2, 1, 0, 0, 1, 40, 0, 0, -2, 0, 1, 0, 2));
+        x.setSpiral(true);
+        c.due("digest of a spiral", x.digest(), hash(2, 2, 4, 7, 70, 0, 2, 1, 1, 10, 20, 13,
+            3, 3, 3, 0, 0, 0, 1, 30, 0, 0, 0, 0, 0, 0,
+            4, 3, 2, 1, 0, 0, 1, 40, 0, 0, -2, 0, 1, 0, 3));
+    }
+}
