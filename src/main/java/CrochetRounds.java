@@ -384,9 +384,10 @@ public final class CrochetRounds {
     }
 
     private void addRow(int shift) {
+        int works = plan.works;
         piece.openRound();
-        for (int i = 0; i < plan.works; i++) {
-            piece.addWork(plan.row.at((i + shift) % plan.works));
+        for (int i = 0; i < works; i++) {
+            piece.addWork(plan.row.at((i + shift) % works));
         }
         piece.closeRound();
     }
@@ -821,19 +822,14 @@ public final class CrochetRounds {
             int stitch = 0;
             for (int i = 0; i < works; i++) {
                 int kind = row.at(start + (i + shift) % works);
-                if (isStacked(kind, stitch)) {
+                boolean onFirst = kinds.at(stitch) == kind;
+                boolean onSecond = kind == DECREASE && kinds.at(stitch + 1) == kind;
+                if (kind != SINGLE && (onFirst || onSecond)) {
                     stacked++;
                 }
                 stitch += usedBy(kind);
             }
             return stacked;
-        }
-
-        private boolean isStacked(int kind, int stitch) {
-            if (kind == SINGLE) {
-                return false;
-            }
-            return kinds.at(stitch) == kind || kind == DECREASE && kinds.at(stitch + 1) == kind;
         }
 
         int bestShift(Plan plan) {

@@ -47,6 +47,16 @@ public final class StateTest {
         c.due("everything is back, but 1 saved state in place of 3", x.digest(), before - 2);
         c.due("that one", x.undo(), 0);
         c.due("the text is not saved", x.clearText(), 3);
+        CrochetRounds y = Checks.told(6, "x3v3;x1v1x1v1x1v1x1v1x1;");
+        y.begin(9);
+        y.addRound(18);
+        y.addRound(36);
+        y.undo();
+        y.undo();
+        y.undo();
+        c.due("row 1 is back", Checks.row(y, 1), "xxxvvv");
+        c.due("row 2 is back", Checks.row(y, 2), "xvxvxvxvx");
+        c.due("the yarn is back", y.value(3), 60 + 90 + 130);
     }
 
     private static void saves(String name, Checks.Call call, CrochetRounds x) {

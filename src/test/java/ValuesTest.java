@@ -77,6 +77,9 @@ public final class ValuesTest {
         c.dueThrow("work(1, -1)", x, INDEX, () -> x.work(1, -1));
         c.dueThrow("work(3, 0)", x, INDEX, () -> x.work(3, 0));
         c.dueThrow("work(-1, 0)", x, INDEX, () -> x.work(-1, 0));
+        CrochetRounds ripped = sample();
+        ripped.rip(1);
+        c.dueThrow("work(2, 0) when ripped", ripped, INDEX, () -> ripped.work(2, 0));
         c.dueThrow("work(MAX, MAX)", x, INDEX, () -> x.work(Integer.MAX_VALUE, Integer.MAX_VALUE));
     }
 
@@ -112,6 +115,14 @@ public final class ValuesTest {
 
     private static void child() {
         dueStitches("child", (x, r, s) -> x.child(r, s), "0 1 3 4 4", "0 2 4 6 7", "-1 -1 -1 -1 -1 -1 -1 -1");
+        CrochetRounds ripped = sample();
+        ripped.rip(1);
+        c.due("child of the last round, the next one ripped", ripped.child(1, 0), -1);
+        CrochetRounds over = Checks.told(6, "x2a1x2;");
+        c.due("child by the first stitch of a decrease", over.child(0, 2), 2);
+        c.due("child by the second stitch of a decrease", over.child(0, 3), 2);
+        c.due("parent of a decrease's stitch", over.parent(1, 2), 2);
+        c.due("parent behind a decrease", over.parent(1, 3), 4);
     }
 
     private static void root() {

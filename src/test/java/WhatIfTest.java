@@ -100,6 +100,15 @@ public final class WhatIfTest {
         x.begin(6);
         x.addRound(9);
         c.due("sums that are alike: a cone of 3", x.nearestShape(), 303);
+        x.begin(3);
+        x.addShape(4, 20, 39);
+        c.due("the greatest size: a ball of 20 is as near as a tube of 20", x.nearestShape(), 120);
+    }
+
+    private static CrochetRounds sampleRipped() {
+        CrochetRounds x = Checks.told(6, "v6;x10v2;");
+        x.rip(1);
+        return x;
     }
 
     private static void evenness() {
@@ -107,7 +116,10 @@ public final class WhatIfTest {
         c.due("no shaped works", x.evenness(0), 0.0);
         c.due("2 of 7", x.evenness(1), 2.0 / 7.0);
         c.due("all alike", Checks.told(6, "v1x2v1x2;").evenness(1), 1.0);
+        c.due("shaped works alone", Checks.told(6, "v6;").evenness(1), 1.0);
         c.due("one shaped", Checks.told(6, "v1x5;").evenness(1), 0.0);
+        CrochetRounds ripped = sampleRipped();
+        c.dueThrow("evenness of a ripped round", ripped, INDEX, () -> ripped.evenness(2));
         c.dueThrow("evenness(2)", x, INDEX, () -> x.evenness(2));
         c.dueThrow("evenness(-1)", x, INDEX, () -> x.evenness(-1));
     }
