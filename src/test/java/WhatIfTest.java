@@ -52,6 +52,7 @@ public final class WhatIfTest {
         c.due("6 12 22 32 and so on", x.roundsTo(120, 10), 12);
         c.due("halved", x.roundsTo(3, 60), 1);
         c.due("down by ones", x.roundsTo(3, 1), 3);
+        c.due("nothing changes", x.digest(), before);
         x.begin(9);
         c.due("9 5 3", x.roundsTo(3, 60), 2);
         c.due("9 5", x.roundsTo(5, 60), 1);
@@ -62,8 +63,6 @@ public final class WhatIfTest {
         c.due("40 rounds do not matter: 120 60 30 15 8 4 3", x.roundsTo(3, 60), 6);
         c.due("120 to 60", x.roundsTo(60, 60), 1);
         c.due("120 to 60 with 59", x.roundsTo(60, 59), 2);
-        x.begin(6);
-        c.due("nothing changes but begin", x.undo() >= 0 && before != 0, true);
         c.dueThrow("roundsTo(2, 1)", x, ARGUMENT, () -> x.roundsTo(2, 1));
         c.dueThrow("roundsTo(121, 1)", x, ARGUMENT, () -> x.roundsTo(121, 1));
         c.dueThrow("roundsTo(6, 0)", x, ARGUMENT, () -> x.roundsTo(6, 0));

@@ -101,12 +101,12 @@ public final class WorkTest {
         y.rip(1);
         c.due("addRound(6) at 39", y.addRound(6), 0);
         c.due("rounds then", y.value(0), 40);
-        CrochetRounds z = Checks.told(12, "v12;v24;v48;");
-        z.undo();
-        z.begin(12);
-        z.addShape(2, 1, 3);
-        c.due("addRound(120) from 96", z.addRound(120) >= 0, true);
+        CrochetRounds z = Checks.told(12, "v12;v24;x48;");
+        c.due("addRound(60) from 48", z.addRound(60), 0);
+        c.due("addRound(120) from 60", z.addRound(120), 0);
         c.due("total 120", z.value(1), 120);
+        c.dueThrow("addRound(59) from 120", z, UNSUPPORTED, () -> z.addRound(59));
+        c.due("addRound(60) from 120", z.addRound(60), 0);
     }
 
     private static void addShifted() {
