@@ -4,8 +4,6 @@ public final class StateTest {
 
     public static void main(String[] args) {
         undo();
-        everyUndoableCallSaves();
-        otherCallsSaveNothing();
         digest();
         c.end();
     }
@@ -57,60 +55,6 @@ public final class StateTest {
         c.due("row 1 is back", Checks.row(y, 1), "xxxvvv");
         c.due("row 2 is back", Checks.row(y, 2), "xvxvxvxvx");
         c.due("the yarn is back", y.value(3), 60 + 90 + 130);
-    }
-
-    private static void saves(String name, Checks.Call call, CrochetRounds x) {
-        while (!Checks.thrown(() -> x.undo()).equals("IllegalStateException")) {
-            continue;
-        }
-        long before = x.digest();
-        call.answer();
-        c.due(name + " saves one state", x.undo(), 0);
-        c.due(name + " is undone", x.digest(), before);
-    }
-
-    private static void everyUndoableCallSaves() {
-        CrochetRounds x = new CrochetRounds();
-        saves("begin", () -> x.begin(6), x);
-        saves("addRound", () -> x.addRound(6), x);
-        saves("addShifted", () -> x.addShifted(9, 3), x);
-        saves("addMirrored", () -> x.addMirrored(8), x);
-        saves("addShape", () -> x.addShape(0, 1, 39), x);
-        saves("addShape of nothing", () -> x.addShape(3, 20, 39), x);
-        saves("setYarn", () -> x.setYarn(0, 10), x);
-        saves("setSpiral", () -> x.setSpiral(false), x);
-        saves("carryOut of nothing", () -> x.carryOut(), x);
-        Checks.write(x, "v6;");
-        saves("carryOut", () -> x.carryOut(), x);
-        CrochetRounds y = new CrochetRounds();
-        for (int i = 0; i < 6; i++) {
-            y.addRound(6);
-        }
-        saves("rip", () -> y.rip(1), y);
-    }
-
-    private static void otherCallsSaveNothing() {
-        CrochetRounds x = new CrochetRounds();
-        Checks.write(x, "x6;");
-        long before = x.digest();
-        x.round(0, 5);
-        x.work(0, 0);
-        x.maker(0, 0);
-        x.parent(0, 0);
-        x.child(0, 0);
-        x.root(0, 0);
-        x.place(0, 0);
-        x.value(3);
-        x.goal(1, 3, 39);
-        x.stacks(12, 3);
-        x.roundsTo(120, 1);
-        x.nearestShape();
-        x.evenness(0);
-        x.judged();
-        x.digest();
-        c.due("asking changes nothing", x.digest(), before);
-        x.clearText();
-        c.dueThrow("nothing is saved", x, IllegalStateException.class, () -> x.undo());
     }
 
     private static long hash(long... values) {
